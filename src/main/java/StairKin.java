@@ -455,11 +455,9 @@ public final class StairKin {
         }
 
         static int[] longer(int[] row, int length) {
-            if (row == null || length <= row.length) {
-                return row;
-            }
-            int[] copy = new int[length];
-            for (int place = 0; place < row.length && place < copy.length; place++) {
+            int had = row == null ? 0 : row.length;
+            int[] copy = new int[length > had ? length : had];
+            for (int place = 0; row != null && place < row.length && place < copy.length; place++) {
                 copy[place] = row[place];
             }
             return copy;
