@@ -1,0 +1,170 @@
+import com.sun.management.ThreadMXBean;
+import java.lang.management.ManagementFactory;
+import java.lang.reflect.InvocationTargetException;
+import java.lang.reflect.Method;
+
+/** What runs take of the room that they all share, and how arguments of any kind are met in any state. */
+public final class RoomTest {
+    private static final int[] ARGUMENTS = {
+        Integer.MIN_VALUE, Integer.MIN_VALUE + 1, -10000, -4, -1, 0, 1, 2, 3, 5, 11, 12, 13, 60, 9973, 9999, 10000,
+        Integer.MAX_VALUE - 1, Integer.MAX_VALUE
+    };
+    private static final int CALLS = 512;
+    /** A machine's field or element takes at least 4 bytes, and an object 16; the room is for many runs. */
+    private static final long MOST_BYTES_OF_AN_OBJECT = 16000;
+    private static final long MOST_BYTES_OF_A_RUN = 200000;
+
+    private static final ThreadMXBean THREADS = (ThreadMXBean) ManagementFactory.getThreadMXBean();
+
+    private RoomTest() {
+    }
+
+    public static void main(String[] args) throws Exception {
+        wildArguments();
+        roomOfAnObject();
+        roomOfLooks();
+        roomOfManyPrimes();
+        Check.end("RoomTest");
+    }
+
+    /** States that differ in what they have: nothing, some steps, all steps, ones only, a text of each kind. */
+    private static StairKin state(int kind) {
+        StairKin x = new StairKin();
+        int steps = new int[] {0, 1, 5, 12, 12, 4}[kind];
+        for (int step = 0; step < steps; step++) {
+            x.add(step, kind == 4 ? 1 : kind == 3 ? 9999 - step : 12 * (step + 1));
+        }
+        String text = new String[] {"", "4,6", "s0;d0;k0.2", "s0;", "s0;s11", "9999,9998"}[kind];
+        for (int place = 0; place < text.length(); place++) {
+            x.append(text.charAt(place));
+        }
+        if (kind % 2 == 1) {
+            x.save();
+            x.set(0, 2);
+            x.set(1, 4);
+        }
+        return x;
+    }
+
+    private static void wildArguments() throws Exception {
+        Check.part("arguments of any kind");
+        for (int kind = 0; kind < 6; kind++) {
+            for (Method method : StairKin.class.getDeclaredMethods()) {
+                if (java.lang.reflect.Modifier.isPublic(method.getModifiers())) {
+                    callWith(kind, method);
+                }
+            }
+        }
+    }
+
+    private static void callWith(int kind, Method method) throws Exception {
+        int parameters = method.getParameterCount();
+        int many = 1;
+        for (int place = 0; place < parameters; place++) {
+            many *= ARGUMENTS.length;
+        }
+        StairKin x = state(kind);
+        // Of three or four arguments one combination in seven: seven is no divisor of how many there are.
+        for (int turn = 0, calls = 0; turn < many; turn += parameters > 2 ? 7 : 1, calls++) {
+            if (calls % 400 == 399) {
+                x = state(kind);
+            }
+            Object[] arguments = new Object[parameters];
+            for (int place = 0, rest = turn; place < parameters; place++, rest /= ARGUMENTS.length) {
+                arguments[place] = ARGUMENTS[rest % ARGUMENTS.length];
+            }
+            Check.same("state " + kind + ": " + method.getName() + java.util.Arrays.toString(arguments),
+                    outcome(x, method, arguments), "an answer");
+        }
+    }
+
+    private static String outcome(StairKin x, Method method, Object[] arguments) throws IllegalAccessException {
+        try {
+            Object answer = method.invoke(x, arguments);
+            boolean due = answer instanceof Double || (Integer) answer >= StairKin.NOT_FOUND;
+            return due ? "an answer" : "the answer " + answer;
+        } catch (InvocationTargetException thrown) {
+            return String.valueOf(thrown.getCause());
+        }
+    }
+
+    private static long bytes() {
+        return THREADS.getThreadAllocatedBytes(Thread.currentThread().getId());
+    }
+
+    private static void atMost(String what, long bytes, long most) {
+        Check.same(what + ": " + bytes + " bytes of at most " + most, bytes <= most ? 1 : 0, 1);
+    }
+
+    private static void roomOfAnObject() {
+        Check.part("room of an object");
+        new StairKin();
+        long before = bytes();
+        StairKin x = new StairKin();
+        atMost("new StairKin()", bytes() - before, MOST_BYTES_OF_AN_OBJECT);
+        Check.same("without steps", x.count(0), 0);
+    }
+
+    /** Not one object is made by looks, by what would be, or by changes that meet few primes. */
+    private static void roomOfLooks() {
+        Check.part("room of calls");
+        for (int round = 0; round < 3; round++) {
+            StairKin x = new StairKin();
+            long before = bytes();
+            int sum = 0;
+            for (int turn = 0; turn < CALLS / 32; turn++) {
+                sum += change(x, turn) + look(x, turn % 12);
+            }
+            long taken = bytes() - before;
+            if (round > 0) {
+                atMost(CALLS + " calls, answers adding up to " + sum, taken, 0);
+            }
+        }
+    }
+
+    private static int change(StairKin x, int turn) {
+        int sum = x.add(0, 2 + 2 * (turn % 11)) + x.add(0, 12) + x.share(0) + x.divide(0) + x.strike(0, 2) + x.settle();
+        sum += x.set(1, 1 + turn % 4) + x.save() + x.restore() + x.undo() + x.append('s') + x.append('0');
+        return sum + x.carryOut() + x.append('6') + x.read() + x.take(0);
+    }
+
+    private static int look(StairKin x, int step) {
+        int sum = x.fault(0) + x.why(0) + x.step(step, 2) + x.factor(step, 0) + x.common(0, step, 1) + x.whyNot(0, step);
+        sum += x.climbs(0, step, 1) + x.climb(0, step, 2, 1) + x.climbAt(0, step, 0, 1) + x.crown() + x.prime(2, 1);
+        return sum + x.count(8) + (int) x.mean() + x.ifDone(0, 0, 2) + x.longest(2) + x.bestStrike();
+    }
+
+    private static void roomOfManyPrimes() {
+        Check.part("room of many primes");
+        long before = bytes();
+        StairKin x = new StairKin();
+        int primes = 0;
+        for (int number = 9999; number > 2 && primes < CALLS / 2 - 10; number -= 2) {
+            if (isPrime(number)) {
+                x.add(0, number);
+                x.take(0);
+                primes++;
+            }
+        }
+        x.save();
+        atMost(primes + " primes", bytes() - before, MOST_BYTES_OF_A_RUN);
+        Check.same("the accounts still know the first one", x.prime(9973, 1), 0);
+        x.add(0, 9973);
+        Check.same("the accounts still know the first one", x.prime(9973, 1), 1);
+        Check.same("the accounts know no more", x.prime(9967, 1), 0);
+        Check.same("strike", x.strike(0, 9973), 1);
+        Check.same("chips", x.prime(9973, 0), 1);
+        Check.same("kinds of chips", x.count(6), 1);
+        Check.same("restore()", x.restore(), 0);
+        Check.same("chips", x.prime(9973, 0), 0);
+    }
+
+    private static boolean isPrime(int number) {
+        for (int divisor = 2; divisor * divisor <= number; divisor++) {
+            if (number % divisor == 0) {
+                return false;
+            }
+        }
+        return true;
+    }
+}
