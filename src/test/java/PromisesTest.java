@@ -37,6 +37,7 @@ public final class PromisesTest {
         climbAt();
         crown();
         prime();
+        manyPrimes();
         count();
         mean();
         ifDone();
@@ -800,6 +801,37 @@ public final class PromisesTest {
             primes += x.prime(number, 4) == INVALID ? 0 : 1;
         }
         Check.same("primes below 10000", primes, 1229);
+    }
+
+    private static void manyPrimes() {
+        Check.part("promise 23, many primes");
+        StairKin x = new StairKin();
+        int[] primes = new int[60];
+        int many = 0;
+        for (int number = 9999; many < primes.length; number -= 2) {
+            if (java.math.BigInteger.valueOf(number).isProbablePrime(50)) {
+                primes[many] = number;
+                many++;
+            }
+        }
+        for (int place = 0; place < many; place++) {
+            x.add(0, primes[place]);
+            x.save();
+            Check.same("strike(0, " + primes[place] + ")", x.strike(0, primes[place]), 1);
+        }
+        Check.same("chips", x.count(5), many);
+        Check.same("different primes of chips", x.count(6), many);
+        Check.same("broke", x.count(7), many);
+        Check.same("bestStrike()", x.bestStrike(), NOT_FOUND);
+        for (int place = 0; place < many; place++) {
+            account(x, primes[place], 1, 1, 0, 0, 0);
+        }
+        Check.same("restore()", x.restore(), 1);
+        account(x, primes[many - 1], 0, 1, 1, 1, 1);
+        account(x, primes[many - 2], 1, 1, 0);
+        Check.same("ifDone(2, 0, 3)", x.ifDone(2, 0, 3), 0);
+        Check.same("undo()", x.undo(), 3);
+        account(x, primes[many - 1], 1, 1, 0);
     }
 
     private static void count() {
