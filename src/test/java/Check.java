@@ -39,6 +39,10 @@ final class Check {
         }
     }
 
+    static int checks() {
+        return checks;
+    }
+
     static int wrong() {
         return wrong;
     }

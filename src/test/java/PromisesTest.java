@@ -1,12 +1,5 @@
 /** Promise by promise: answers that were worked out by hand from the document. */
-public final class PromisesTest {
-    private static final int INVALID = StairKin.INVALID_ARGUMENT;
-    private static final int NOT_POSSIBLE = StairKin.NOT_POSSIBLE;
-    private static final int LIMIT = StairKin.LIMIT_REACHED;
-    private static final int NOT_FOUND = StairKin.NOT_FOUND;
-    private static final int LEAST = Integer.MIN_VALUE;
-    private static final int MOST = Integer.MAX_VALUE;
-
+public final class PromisesTest extends Cases {
     private PromisesTest() {
     }
 
@@ -49,33 +42,6 @@ public final class PromisesTest {
         restore();
         errorsChangeNothing();
         Check.end("PromisesTest");
-    }
-
-    private static StairKin stairs(int... numbers) {
-        StairKin x = new StairKin();
-        for (int number : numbers) {
-            x.add(x.count(0), number);
-        }
-        return x;
-    }
-
-    private static void write(StairKin x, String text) {
-        x.clear();
-        for (int place = 0; place < text.length(); place++) {
-            x.append(text.charAt(place));
-        }
-    }
-
-    private static int deeds(StairKin x, String text) {
-        write(x, text);
-        return x.carryOut();
-    }
-
-    private static void numbers(String call, StairKin x, int... due) {
-        Check.same(call + ": steps", x.count(0), due.length);
-        for (int step = 0; step < due.length; step++) {
-            Check.same(call + ": step(" + step + ", 0)", x.step(step, 0), due[step]);
-        }
     }
 
     private static void newObject() {
@@ -687,14 +653,6 @@ public final class PromisesTest {
         Check.same("climb(0, 4, 2, 2)", x.climb(0, 4, 2, 2), 3);
         Check.same("climb(2, 4, 2, 2)", x.climb(2, 4, 2, 2), 15);
         Check.same("climb without steps", new StairKin().climb(0, 0, 0, 0), INVALID);
-    }
-
-    private static void path(String call, StairKin x, int from, int to, int kind, int... due) {
-        Check.same(call + ": length", x.climb(from, to, kind, 0), due.length);
-        for (int place = 0; place < due.length; place++) {
-            Check.same(call + ": climbAt(.., " + kind + ", " + place + ")", x.climbAt(from, to, kind, place), due[place]);
-        }
-        Check.same(call + ": behind the end", x.climbAt(from, to, kind, due.length), NOT_FOUND);
     }
 
     private static void climbTies() {
