@@ -101,12 +101,19 @@ abstract class Cases {
 
     /** Whatever the call returns, the object is as one of the same kind that was not called. */
     static void kept(String call, Made made, Call with) {
+        asBehind(call, made, with, x -> 0);
+    }
+
+    /** Behind the one call the object is as one of the same kind is behind the other call. */
+    static void asBehind(String call, Made made, Call one, Call other) {
+        alike(call, Portrait.ofState(behind(made, one)), Portrait.ofState(behind(made, other)));
+        alike(call, Portrait.ofPad(behind(made, one)), Portrait.ofPad(behind(made, other)));
+    }
+
+    private static StairKin behind(Made made, Call with) {
         StairKin x = made.make();
         with.on(x);
-        alike(call, Portrait.ofState(x), Portrait.ofState(made.make()));
-        x = made.make();
-        with.on(x);
-        alike(call, Portrait.ofPad(x), Portrait.ofPad(made.make()));
+        return x;
     }
 
     private static void alike(String call, List<String> got, List<String> due) {

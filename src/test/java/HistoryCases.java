@@ -27,6 +27,7 @@ final class HistoryCases extends Cases {
         nothingIsChanged();
         undo();
         undoOfEach();
+        undoOfAccounts();
         save();
         restore();
         the512thCall();
@@ -542,27 +543,52 @@ final class HistoryCases extends Cases {
         }, y -> y.undo());
     }
 
+    /** Changes of {@link #struck}, none of which returns an error; the pad is empty behind each. */
+    private static final Call[] CHANGES = {
+        x -> x.add(3, 8192), x -> x.take(4), x -> x.share(1), x -> x.divide(3), x -> x.strike(4, 9973), x -> x.strike(2, 7),
+        x -> x.set(0, 2), x -> x.set(1, 1), x -> numbersRead(x, "5,7"), x -> deeds(x, "k0.2;s1"), x -> x.restore()
+    };
+
+    /**
+     * Steps 12, 6, 35, 1, 9973, 14, with three states in the history. Where the fourth one will be written there was
+     * another one before, which has been undone: it must not be taken for the one that is due.
+     */
+    private static StairKin struck() {
+        StairKin x = rich("");
+        x.undo();
+        x.undo();
+        deeds(x, "k1.3");
+        return x;
+    }
+
     private static void undoOfEach() {
         Sentences.begin("Promise 29", "`int undo()`: Undoes the latest change");
-        Call[] changes = {
-            x -> x.add(3, 8192), x -> x.take(4), x -> x.share(1), x -> x.divide(3), x -> x.strike(4, 9973), x -> x.set(0, 2),
-            x -> x.set(1, 1), x -> x.restore(), x -> x.strike(2, 7)
-        };
-        for (int change = 0; change < changes.length; change++) {
-            Call with = changes[change];
-            // Room is made for the state of the change, so that it drops none.
-            Made made = () -> {
-                StairKin x = rich();
-                x.undo();
-                return x;
-            };
-            kept("change " + change + " and undo()", made, x -> {
+        numbers("before the changes", struck(), 12, 6, 35, 1, 9973, 14);
+        for (int change = 0; change < CHANGES.length; change++) {
+            Call with = CHANGES[change];
+            Call withUndo = x -> {
                 Check.same("it is no error", with.on(x) >= 0 ? 1 : 0, 1);
                 Check.same("undo()", x.undo(), 3);
                 return 0;
-            });
+            };
+            kept("change " + change + " and undo()", () -> struck(), withUndo);
+            // A full history drops its oldest state, whichever change it was.
+            Made full = () -> {
+                StairKin x = struck();
+                x.add(6, 3);
+                return x;
+            };
+            asBehind("change " + change + " and undo(), full history", full, withUndo, x -> x.set(0, 1) + x.undo());
         }
-        Made settled = () -> shared(8, 12);
+        Made settled = () -> {
+            StairKin x = shared(8, 12);
+            x.set(1, 3);
+            x.undo();
+            x.add(0, 6);
+            x.set(1, 4);
+            x.undo();
+            return x;
+        };
         kept("settle() and undo()", settled, x -> x.settle() + x.undo());
         kept("settle() of none and undo()", () -> new StairKin(), x -> x.settle() + x.undo());
         StairKin x = shared(8, 12);
@@ -575,6 +601,55 @@ final class HistoryCases extends Cases {
         x.undo();
         numbers("undo() of carryOut()", x, 8, 12);
         Check.same("chips", x.count(5), 0);
+    }
+
+    private static void accounts(String call, StairKin x, int prime, int chips, int came) {
+        Check.same(call + ": chips of " + prime, x.prime(prime, 0), chips);
+        Check.same(call + ": came of " + prime, x.prime(prime, 1), came);
+    }
+
+    private static void undoOfAccounts() {
+        Sentences.begin("Promise 29", "everything but the pad, the snapshot and why() is as it was before it.");
+        StairKin x = stairs(7);
+        x.strike(0, 7);
+        x.undo();
+        x.undo();
+        x.add(0, 5);
+        accounts("another prime behind undo()", x, 5, 0, 1);
+        accounts("another prime behind undo()", x, 7, 0, 0);
+        x = stairs(2);
+        x.strike(0, 2);
+        x.save();
+        x.undo();
+        x.undo();
+        x.add(0, 9);
+        x.restore();
+        accounts("restore()", x, 2, 1, 1);
+        accounts("restore()", x, 3, 0, 0);
+        x.undo();
+        accounts("undo() of restore()", x, 2, 0, 0);
+        accounts("undo() of restore()", x, 3, 0, 2);
+        x = new StairKin();
+        int[] primes = {2, 3, 5, 7, 11, 13, 17, 19, 23, 29, 31, 37, 41, 43, 47, 53, 59, 61, 67, 71, 73, 79, 83, 89, 97, 9973};
+        for (int prime : primes) {
+            x.add(0, prime);
+            x.strike(0, prime);
+        }
+        x.save();
+        x.add(0, 101);
+        x.strike(0, 101);
+        x.undo();
+        accounts("undo() of many", x, 101, 0, 1);
+        x.undo();
+        accounts("undo() of many", x, 101, 0, 0);
+        x.undo();
+        accounts("undo() of many", x, 9973, 0, 1);
+        x.restore();
+        for (int prime : primes) {
+            accounts("restore() of many", x, prime, 1, 1);
+        }
+        Check.same("chips", x.count(5), primes.length);
+        Check.same("different primes of chips", x.count(6), primes.length);
     }
 
     private static void save() {
@@ -590,6 +665,8 @@ final class HistoryCases extends Cases {
         x.set(0, 2);
         x.set(1, 1);
         x.take(1);
+        x.add(0, 7);
+        x.strike(0, 7);
         deeds(x, "s0");
         x.restore();
         numbers("restore()", x, 30, 8);
@@ -601,8 +678,16 @@ final class HistoryCases extends Cases {
         Check.same("the pad is not brought back", x.count(12), 0);
         Check.same("the history is not brought back", x.count(13), 4);
         Check.same("why(0) is not brought back", x.why(0), INVALID);
+        write(x, "4,6");
+        x.strike(1, 2);
+        x.restore();
+        Check.same("the pad is no part of what was", x.count(12), 3);
+        Check.same("fault(0) of it", x.fault(0), NOT_FOUND);
         Check.same("undo() of restore()", x.undo(), 3);
-        numbers("undo() of restore()", x, 6);
+        Check.same("undo() of strike()", x.undo(), 2);
+        numbers("undo() of strike()", x, 30, 8);
+        Check.same("undo() of the first restore()", x.undo(), 1);
+        numbers("undo() of the first restore()", x, 6);
         Sentences.begin("Promise 30", "in place of the one that was.");
         x.save();
         x.add(0, 9);

@@ -273,6 +273,8 @@ final class TermsCases extends Cases {
         path("of steps that can be climbed", x, 0, 4, 2, 0, 2, 3, 4);
         x.add(2, 9000);
         path("with a heavy step", x, 0, 5, 2, 0, 2, 3, 4, 5);
+        path("by 1, the lower one", stairs(6, 9999, 9998, 6), 0, 3, 2, 0, 1, 3);
+        path("by 1, the higher one", stairs(6, 9998, 9999, 6), 0, 3, 2, 0, 2, 3);
     }
 
     private static void climbsOfAKind() {
@@ -455,6 +457,20 @@ final class TermsCases extends Cases {
         x.take(0);
         Check.same("chips of 2 without steps", x.prime(2, 0), 2);
         Check.same("chips without steps", x.count(5), 4);
+        x = new StairKin();
+        int[] products = {2310, 4199, 667, 1147, 1763, 2491, 3599, 4757, 5767, 7387, 9797, 9973};
+        for (int product : products) {
+            x.add(0, product);
+            x.add(1, product);
+            x.divide(0);
+            x.take(0);
+        }
+        Check.same("chips of many primes", x.count(5), 27);
+        Check.same("many different primes", x.count(6), 27);
+        for (int prime : new int[] {2, 11, 13, 29, 31, 43, 53, 59, 71, 79, 89, 97, 101, 9973}) {
+            Check.same("chips of " + prime, x.prime(prime, 0), 1);
+            Check.same("came of " + prime, x.prime(prime, 1), 1);
+        }
     }
 
     private static void came() {
@@ -469,6 +485,7 @@ final class TermsCases extends Cases {
         x.divide(0);
         x.share(0);
         Check.same("deeds bring none and take none", x.prime(2, 1), 9);
+        Check.same("came of twelve", alike(12, 4).prime(2, 1), 24);
         Sentences.begin("Deeds", "less those of the numbers of all steps that were taken off (by take())");
         numbers("behind the deeds", x, 1, 12, 1, 16, 9973);
         x.take(3);
