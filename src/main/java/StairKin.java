@@ -1211,7 +1211,8 @@ public final class StairKin {
         /** Reading stops at the place of the fault, whether a character there is wrong or missing. */
         int faultOf(int way) {
             begin();
-            for (parts = 1; parts <= MOST_CODES; parts++) {
+            for (int part = 1; part <= MOST_CODES; part++) {
+                parts = part;
                 if (!nextPart(way)) {
                     return place;
                 }

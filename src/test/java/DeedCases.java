@@ -339,7 +339,8 @@ final class DeedCases extends Cases {
         range("the stride of none", 1, 4, () -> new StairKin(), (y, value) -> y.set(1, value));
         Sentences.begin("Promise 8", "Returns the value before");
         x = new StairKin();
-        int[][] due = {{0, 2, 0}, {0, 2, 2}, {0, 1, 2}, {0, 0, 1}, {1, 1, 2}, {1, 4, 1}, {1, 4, 4}, {1, 3, 4}, {0, 2, 0}, {1, 2, 3}};
+        int[][] due = {{0, 2, 0}, {0, 2, 2}, {0, 1, 2}, {0, 0, 1}, {1, 1, 2}, {1, 4, 1}, {1, 4, 4}, {1, 3, 4},
+            {0, 2, 0}, {1, 2, 3}};
         for (int[] row : due) {
             Check.same("set(" + row[0] + ", " + row[1] + ")", x.set(row[0], row[1]), row[2]);
         }

@@ -45,7 +45,7 @@ final class HistoryCases extends Cases {
     }
 
     private static void changes() {
-        Sentences.begin("Changes and errors", "The changes are the calls of add, take, share, divide, strike, set, read, carryOut, settle");
+        Sentences.begin("Changes and errors", "The changes are the calls of add, take, share, divide, strike, set");
         Made two = () -> stairs(6, 6);
         isChange("add", two, x -> x.add(0, 5));
         isChange("take", two, x -> x.take(0));
@@ -54,12 +54,23 @@ final class HistoryCases extends Cases {
         isChange("strike", two, x -> x.strike(0, 2));
         isChange("set", two, x -> x.set(0, 2));
         isChange("set", two, x -> x.set(1, 1));
+        Sentences.begin("Changes and errors", "read, carryOut, settle and restore");
         isChange("read", two, x -> numbersRead(x, "5"));
         isChange("carryOut", two, x -> deeds(x, "k0.2"));
         isChange("settle", two, x -> x.settle());
-        Sentences.begin("Changes and errors", "and restore that return no error");
         isChange("restore", two, x -> x.save() + x.restore());
-        Check.same("restore without a snapshot", stairs(6).restore(), NOT_POSSIBLE);
+        Sentences.begin("Changes and errors", "that return no error.");
+        Call[] refused = {
+            x -> x.add(3, 5), x -> x.take(2), x -> x.share(0), x -> x.divide(0), x -> x.strike(0, 3), x -> x.set(0, 3),
+            x -> x.read(), x -> x.carryOut(), x -> x.settle(), x -> x.restore()
+        };
+        for (int call = 0; call < refused.length; call++) {
+            StairKin x = stairs(9998, 9999);
+            Check.same("call " + call + " is refused", refused[call].on(x) < 0 ? 1 : 0, 1);
+            Check.same("states behind call " + call + ", which was refused", x.count(13), 2);
+            Check.same("undo() behind it", x.undo(), 1);
+            numbers("undo() behind it", x, 9998);
+        }
     }
 
     /** Both steps come by one change, so that one state is left when others are undone. */
@@ -70,7 +81,7 @@ final class HistoryCases extends Cases {
     }
 
     private static void noChanges() {
-        Sentences.begin("Changes and errors", "The changes are the calls");
+        Sentences.begin("Changes and errors", "The changes are");
         Call[] calls = {
             x -> x.append('1'), x -> x.clear(), x -> x.fault(0), x -> x.why(0), x -> x.step(0, 0), x -> x.factor(0, 0),
             x -> x.common(0, 0, 0), x -> x.whyNot(0, 0), x -> x.climbs(0, 0, 0), x -> x.climb(0, 0, 0, 0),
@@ -272,7 +283,7 @@ final class HistoryCases extends Cases {
     }
 
     private static void constants() {
-        Sentences.begin("Changes and errors", "The constants: `INVALID_ARGUMENT = -1`: An argument is out of its range, or there is no such step.");
+        Sentences.begin("Changes and errors", "An argument is out of its range, or there is no such step.");
         Check.same("INVALID_ARGUMENT", StairKin.INVALID_ARGUMENT, -1);
         Check.same("out of its range", rich().count(14), -1);
         Check.same("no such step", rich().step(6, 0), -1);
