@@ -736,6 +736,17 @@ final class HistoryCases extends Cases {
         Check.same("undo() of add", x.undo() >= 0 ? 1 : 0, 1);
         x.undo();
         numbers("undo() leaves what restore() brought", x, 12, 18, 35, 1, 9973, 14);
+        x = new StairKin();
+        x.save();
+        x.add(0, 7);
+        x.strike(0, 7);
+        x.restore();
+        x.add(0, 15);
+        for (int prime : new int[] {3, 5}) {
+            accounts("another prime behind restore()", x, prime, 0, 1);
+        }
+        accounts("another prime behind restore()", x, 7, 0, 0);
+        Check.same("chips", x.count(5), 0);
         Sentences.begin("Promise 31", "Returns how many steps there are then");
         Check.same("six", full().restore(), 6);
         x = new StairKin();

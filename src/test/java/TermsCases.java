@@ -486,6 +486,9 @@ final class TermsCases extends Cases {
         x.share(0);
         Check.same("deeds bring none and take none", x.prime(2, 1), 9);
         Check.same("came of twelve", alike(12, 4).prime(2, 1), 24);
+        for (int many = 0; many <= 40; many++) {
+            cameBehind(many);
+        }
         Sentences.begin("Deeds", "less those of the numbers of all steps that were taken off (by take())");
         numbers("behind the deeds", x, 1, 12, 1, 16, 9973);
         x.take(3);
@@ -502,6 +505,25 @@ final class TermsCases extends Cases {
         x.take(1);
         Check.same("taken off is what it bears then: 2", x.prime(2, 1), 1);
         Check.same("taken off is what it bears then: 3", x.prime(3, 1), 0);
+    }
+
+    /** However many primes came before, the five of one number come, too. */
+    private static void cameBehind(int many) {
+        StairKin x = new StairKin();
+        int prime = 9973;
+        for (int came = 0; came < many; prime -= 2) {
+            if (java.math.BigInteger.valueOf(prime).isProbablePrime(50)) {
+                x.add(0, prime);
+                x.strike(0, prime);
+                came++;
+            }
+        }
+        x.add(0, 2310);
+        for (int factor : new int[] {2, 3, 5, 7, 11}) {
+            Check.same("came of " + factor + " behind " + many + " others", x.prime(factor, 1), 1);
+        }
+        Check.same("came of the first one of " + many, x.prime(9973, 1), many == 0 ? 0 : 1);
+        Check.same("different primes of chips", x.count(6), many);
     }
 
     private static void rounds() {
