@@ -30,7 +30,6 @@ final class HistoryCases extends Cases {
         undoOfAccounts();
         save();
         restore();
-        the512thCall();
     }
 
     /** The call adds a state to a history that has room for it. */
@@ -763,20 +762,5 @@ final class HistoryCases extends Cases {
         refused("of a new object", NOT_POSSIBLE, () -> new StairKin(), y -> y.restore());
         refused("of two steps", NOT_POSSIBLE, () -> stairs(6, 5), y -> y.restore());
         Check.same("none still", stairs(6, 5).restore(), NOT_POSSIBLE);
-    }
-
-    private static void the512thCall() {
-        Sentences.begin("What it is", "An object is used for at most 512 calls after it has been made");
-        StairKin x = new StairKin();
-        x.save();
-        for (int turn = 0; turn < 169; turn++) {
-            Check.same("add", x.add(0, 9973), 1);
-            Check.same("add", x.add(0, 9973), 2);
-            Check.same("restore", x.restore(), 0);
-        }
-        Check.same("call 509", x.add(0, 8192), 1);
-        Check.same("call 510", x.count(13), 4);
-        Check.same("call 511", x.prime(2, 1), 13);
-        Check.same("call 512", x.undo(), 3);
     }
 }

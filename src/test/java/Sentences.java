@@ -12,9 +12,7 @@ final class Sentences {
     private static final Pattern HEADING = Pattern.compile("#+ (Promise \\d+|[A-Z][^:]*).*");
     /** A sentence ends with its full stop, or with a ";" that is not itself spoken of. */
     private static final Pattern END = Pattern.compile(";(?!\")\\s*|(?<=[.)])\\s+(?=[A-Z(])");
-    /** What stands below these headings promises nothing, or is seen by FaceTest. */
-    private static final List<String> NOTHING_PROMISED =
-            List.of("StairKin", "What it is", "The public face", "Terms", "Not promised");
+    private static final String NOTHING_PROMISED = "Not promised";
 
     /** The words of the document that a test is for, and how many checks there had been ahead of it. */
     private record Words(String heading, String words, int checksBefore) {
@@ -55,7 +53,7 @@ final class Sentences {
             Check.same(words.heading() + ": \"" + words.words() + "\" stands in the document", found ? 1 : 0, 1);
         }
         lines.forEach((heading, texts) -> {
-            for (int line = 0; line < texts.size() && !NOTHING_PROMISED.contains(heading); line++) {
+            for (int line = 0; line < texts.size() && !NOTHING_PROMISED.equals(heading); line++) {
                 passedOver(heading, texts.get(line), met.get(heading).get(line));
             }
         });
@@ -68,11 +66,16 @@ final class Sentences {
             Matcher matcher = HEADING.matcher(line);
             if (matcher.matches()) {
                 heading = matcher.group(1);
-            } else if (!line.isBlank()) {
+            } else if (isText(line)) {
                 lines.computeIfAbsent(heading, name -> new ArrayList<>()).add(line);
             }
         }
         return lines;
+    }
+
+    /** The signs round a piece of Java, and its last bracket, say nothing. */
+    private static boolean isText(String line) {
+        return !line.startsWith("```") && line.chars().anyMatch(Character::isLetter);
     }
 
     private static boolean mark(List<String> lines, List<boolean[]> met, String words) {

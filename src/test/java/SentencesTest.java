@@ -6,11 +6,14 @@ public final class SentencesTest {
     }
 
     public static void main(String[] args) throws java.io.IOException {
+        Path program = Path.of(args.length > 0 ? args[0] : "src/main/java/StairKin.java");
+        FirstCases.all();
+        FaceCases.all(program);
         TermsCases.all();
         DeedCases.all();
         TextCases.all();
         LookCases.all();
-        HistoryCases.all(Path.of(args.length > 0 ? args[0] : "src/main/java/StairKin.java"));
+        HistoryCases.all(program);
         Sentences.compareWith(Path.of("../shared/DOC.md"));
         Check.end("SentencesTest");
     }
