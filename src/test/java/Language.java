@@ -15,6 +15,7 @@ import com.sun.source.tree.MethodInvocationTree;
 import com.sun.source.tree.MethodTree;
 import com.sun.source.tree.NewArrayTree;
 import com.sun.source.tree.NewClassTree;
+import com.sun.source.tree.ParenthesizedTree;
 import com.sun.source.tree.Tree;
 import com.sun.source.tree.TypeCastTree;
 import com.sun.source.tree.VariableTree;
@@ -214,12 +215,13 @@ final class Language extends TreePathScanner<Void, Void> {
 
     @Override
     public Void visitForLoop(ForLoopTree loop, Void nothing) {
-        String counter = loop.getInitializer().isEmpty() ? "" : ((VariableTree) loop.getInitializer().get(0)).getName().toString();
+        boolean counts = !loop.getInitializer().isEmpty() && loop.getInitializer().get(0) instanceof VariableTree;
+        String counter = counts ? ((VariableTree) loop.getInitializer().get(0)).getName().toString() : "";
         String step = loop.getUpdate().isEmpty() ? "" : loop.getUpdate().get(0).getExpression().toString();
         String bound = String.valueOf(loop.getCondition());
         boolean up = step.equals(counter + "++") && bound.matches(".*\\b" + counter + " (<|<=) .*");
         boolean down = step.equals(counter + "--") && bound.matches(".*\\b" + counter + " (>|>=) .*");
-        holds(9, "for (.. " + bound + " ..) in " + methodAround() + " counts to a bound", !counter.isEmpty() && (up || down));
+        holds(9, "for (.. " + bound + " ..) in " + methodAround() + " counts to a bound", counts && (up || down));
         holds(9, bound + " in " + methodAround() + " holds only if all of it holds", !bound.contains("||"));
         holds(9, counter + " in " + methodAround() + " is counted by its loop alone",
                 !loop.getStatement().toString().matches("(?s).*(\\b" + counter + " (=|\\+=|-=|\\*=) .*|\\b" + counter
@@ -309,12 +311,13 @@ final class Language extends TreePathScanner<Void, Void> {
         }
         if (expression instanceof IdentifierTree || expression instanceof MemberSelectTree) {
             Element element = trees.getElement(new TreePath(getCurrentPath(), expression));
-            return element instanceof VariableElement constant && constant.getConstantValue() instanceof Integer value && value > 0;
+            return element instanceof VariableElement constant
+                    && constant.getConstantValue() instanceof Integer value && value > 0;
         }
         if (expression instanceof BinaryTree sum && sum.getKind() == Tree.Kind.PLUS) {
             return isPositiveConstant(sum.getLeftOperand()) && isPositiveConstant(sum.getRightOperand());
         }
-        return expression instanceof com.sun.source.tree.ParenthesizedTree inside && isPositiveConstant(inside.getExpression());
+        return expression instanceof ParenthesizedTree inside && isPositiveConstant(inside.getExpression());
     }
 
     private String methodAround() {

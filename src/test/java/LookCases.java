@@ -145,8 +145,9 @@ final class LookCases extends Cases {
 
     private static void common() {
         Sentences.begin("Promise 17", "Returns the greatest common divisor of the numbers of two steps.");
-        int[][] due = {{1, 1, 1}, {1, 9999, 1}, {9999, 9999, 9999}, {9998, 9999, 1}, {8192, 6144, 2048}, {9973, 9973, 9973},
-            {360, 84, 12}, {9409, 97, 97}, {97, 9991, 97}, {6765, 4181, 1}, {9801, 9900, 99}, {5040, 7560, 2520}};
+        int[][] due = {{1, 1, 1}, {1, 9999, 1}, {9999, 9999, 9999}, {9998, 9999, 1}, {8192, 6144, 2048},
+            {8192, 8192, 8192}, {9973, 9973, 9973}, {360, 84, 12}, {9409, 97, 97}, {97, 9991, 97}, {6765, 4181, 1},
+            {9801, 9900, 99}, {5040, 7560, 2520}};
         for (int[] row : due) {
             StairKin x = stairs(row[0], 7, row[1]);
             for (int way = 0; way < 2; way++) {

@@ -50,7 +50,8 @@ public final class ReadmeTest {
         Check.part("constants");
         for (Field field : StairKin.class.getFields()) {
             int value = field.getInt(null);
-            String told = value < 0 ? "| `" + field.getName() + "` | " + value + " |" : "`" + field.getName() + "` (" + value + ")";
+            String name = "`" + field.getName() + "`";
+            String told = value < 0 ? "| " + name + " | " + value + " |" : name + " (" + value + ")";
             Check.same(told + " is told", readme.contains(told) ? 1 : 0, 1);
         }
     }
