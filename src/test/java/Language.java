@@ -1,343 +1,311 @@
-import com.sun.source.tree.ArrayAccessTree;
+import com.sun.source.tree.AssertTree;
 import com.sun.source.tree.BinaryTree;
+import com.sun.source.tree.BlockTree;
+import com.sun.source.tree.CatchTree;
 import com.sun.source.tree.ClassTree;
 import com.sun.source.tree.CompilationUnitTree;
 import com.sun.source.tree.CompoundAssignmentTree;
-import com.sun.source.tree.ConditionalExpressionTree;
-import com.sun.source.tree.ExpressionTree;
+import com.sun.source.tree.DoWhileLoopTree;
 import com.sun.source.tree.ForLoopTree;
-import com.sun.source.tree.IdentifierTree;
-import com.sun.source.tree.IfTree;
-import com.sun.source.tree.LineMap;
-import com.sun.source.tree.LiteralTree;
-import com.sun.source.tree.MemberSelectTree;
+import com.sun.source.tree.ImportTree;
+import com.sun.source.tree.LambdaExpressionTree;
+import com.sun.source.tree.MemberReferenceTree;
 import com.sun.source.tree.MethodInvocationTree;
 import com.sun.source.tree.MethodTree;
-import com.sun.source.tree.NewArrayTree;
 import com.sun.source.tree.NewClassTree;
-import com.sun.source.tree.ParenthesizedTree;
+import com.sun.source.tree.SynchronizedTree;
+import com.sun.source.tree.ThrowTree;
 import com.sun.source.tree.Tree;
-import com.sun.source.tree.TypeCastTree;
+import com.sun.source.tree.TryTree;
+import com.sun.source.tree.TypeParameterTree;
 import com.sun.source.tree.VariableTree;
+import com.sun.source.tree.WhileLoopTree;
 import com.sun.source.util.TreePath;
 import com.sun.source.util.TreePathScanner;
 import com.sun.source.util.Trees;
-import java.util.ArrayList;
-import java.util.EnumSet;
 import java.util.HashSet;
-import java.util.List;
 import java.util.Map;
 import java.util.Set;
-import java.util.TreeMap;
 import java.util.TreeSet;
 import javax.lang.model.element.Element;
 import javax.lang.model.element.ElementKind;
 import javax.lang.model.element.ExecutableElement;
 import javax.lang.model.element.Modifier;
-import javax.lang.model.element.VariableElement;
-import javax.lang.model.type.TypeKind;
+import javax.lang.model.type.TypeMirror;
 
-/** Goes through the program's tree and looks at each piece of it by the rules of ../shared/LANGUAGE.md. */
+/**
+ * Goes through the program's tree by the rules of ../shared/LANGUAGE.md. It lets pass what the rules leave, and what it
+ * cannot tell; where they say "some sixty" it takes a little more.
+ */
 final class Language extends TreePathScanner<Void, Void> {
-    /** The rules leave some of these; the program does without them all, so that nothing has to be looked at in them. */
-    private static final Set<Tree.Kind> RULED_OUT = EnumSet.of(
-            Tree.Kind.THROW, Tree.Kind.TRY, Tree.Kind.SYNCHRONIZED, Tree.Kind.ASSERT, Tree.Kind.LAMBDA_EXPRESSION,
-            Tree.Kind.MEMBER_REFERENCE, Tree.Kind.INSTANCE_OF, Tree.Kind.SWITCH_EXPRESSION, Tree.Kind.WHILE_LOOP,
-            Tree.Kind.DO_WHILE_LOOP, Tree.Kind.ENHANCED_FOR_LOOP, Tree.Kind.STRING_LITERAL, Tree.Kind.RECORD, Tree.Kind.ENUM,
-            Tree.Kind.INTERFACE, Tree.Kind.ANNOTATION, Tree.Kind.DIVIDE_ASSIGNMENT, Tree.Kind.REMAINDER_ASSIGNMENT);
-    private static final Set<String> TYPES_OF_JAVA = Set.of("int", "boolean", "double", "int[]");
-    private static final Set<String> CALLS_OF_JAVA = Set.of("Math.max", "Math.min");
-    /** The rows that may be made by a call, and not in a constructor. */
-    private static final String MAKES_ROWS = "Rows.longer";
-    private static final int MOST_DEPTH = 8;
+    private static final Set<String> NUMBERS = Set.of("int", "long", "short", "byte", "char", "boolean", "double", "float");
+    private static final Set<String> TYPES_OF_JAVA = Set.of("void", "String", "StringBuilder", "Integer", "ArrayList", "List",
+            "Iterator", "Iterable", "Comparable", "extends", "super", "var", "");
+    private static final Set<String> EXCEPTIONS = Set.of("IllegalStateException", "IllegalArgumentException",
+            "IndexOutOfBoundsException", "ArithmeticException", "UnsupportedOperationException", "NoSuchElementException",
+            "RuntimeException");
+    private static final String OF_LISTS = " add get set remove size isEmpty clear of iterator ";
+    private static final String OF_BUILDERS = " append charAt setCharAt setLength deleteCharAt reverse length toString ";
+    private static final Map<String, String> CALLS_OF_JAVA = Map.ofEntries(
+            Map.entry("String", " length charAt isEmpty equals indexOf substring toCharArray "),
+            Map.entry("StringBuilder", OF_BUILDERS), Map.entry("AbstractStringBuilder", OF_BUILDERS),
+            Map.entry("ArrayList", OF_LISTS), Map.entry("List", OF_LISTS), Map.entry("Collection", OF_LISTS),
+            Map.entry("Iterator", " hasNext next "), Map.entry("Iterable", " iterator "), Map.entry("Comparable", " compareTo "),
+            Map.entry("System", " arraycopy "), Map.entry("Arrays", " copyOf copyOfRange fill "),
+            Map.entry("Enum", " ordinal compareTo <init> "), Map.entry("Object", " clone <init> "),
+            Map.entry("Array", " clone "), Map.entry("Record", " <init> "));
+    private static final Set<String> FUNCTIONS = Set.of("Integer", "Long", "Math");
+    private static final Set<String> NOT_OF_YOUR_OWN = Set.of("equals", "hashCode", "toString", "finalize");
 
     private final Trees trees;
     private final CompilationUnitTree unit;
-    private final Map<String, Set<String>> calls = new TreeMap<>();
-    private final Set<String> shown = new TreeSet<>();
     private final Set<String> ownTypes = new HashSet<>();
+    private final Set<String> shown = new TreeSet<>();
+    private int classes;
 
     Language(Trees trees, CompilationUnitTree unit) {
         this.trees = trees;
         this.unit = unit;
+        for (Tree tree : unit.getTypeDecls()) {
+            noteNames((ClassTree) tree);
+        }
+        oneFile();
+    }
+
+    boolean hasClass(String name) {
+        return ownTypes.contains(name);
+    }
+
+    private void noteNames(ClassTree outer) {
         new TreePathScanner<Void, Void>() {
             @Override
             public Void visitClass(ClassTree type, Void nothing) {
                 ownTypes.add(type.getSimpleName().toString());
+                classes++;
                 return super.visitClass(type, nothing);
             }
 
             @Override
-            public Void visitMethod(MethodTree method, Void nothing) {
-                if (method.getModifiers().getFlags().contains(Modifier.PUBLIC) && method.getReturnType() != null) {
-                    shown.add(method.getName().toString());
-                }
-                return super.visitMethod(method, nothing);
+            public Void visitTypeParameter(TypeParameterTree parameter, Void nothing) {
+                ownTypes.add(parameter.getName().toString());
+                return super.visitTypeParameter(parameter, nothing);
             }
-        }.scan(unit, null);
+        }.scan(new TreePath(new TreePath(unit), outer), null);
+        for (Tree member : outer.getMembers()) {
+            if (member instanceof MethodTree method && has(method.getModifiers().getFlags(), Modifier.PUBLIC)) {
+                shown.add(method.getName().toString());
+            }
+        }
+        shown.remove("<init>");
     }
 
-    private static void holds(int rule, String what, boolean kept) {
+    static void holds(int rule, String what, boolean kept) {
         Check.part("rule " + rule);
         Check.same(what, kept ? "kept" : "broken", "kept");
     }
 
-    @Override
-    public Void scan(Tree tree, Void nothing) {
-        if (tree != null) {
-            Check.part("rules 2, 3, 6, 9");
-            Check.same(tree.getKind() + " in line " + lineOf(startOf(tree)), RULED_OUT.contains(tree.getKind()) ? 1 : 0, 0);
+    private static boolean has(Set<Modifier> flags, Modifier flag) {
+        return flags.contains(flag);
+    }
+
+    private void oneFile() {
+        holds(1, "no package line", unit.getPackageName() == null);
+        holds(1, "one class", unit.getTypeDecls().size() == 1);
+        ClassTree outer = (ClassTree) unit.getTypeDecls().get(0);
+        holds(1, "the class is StairKin", outer.getSimpleName().contentEquals("StairKin") && outer.getKind() == Tree.Kind.CLASS);
+        holds(1, "it is public and final", outer.getModifiers().getFlags().equals(Set.of(Modifier.PUBLIC, Modifier.FINAL)));
+        holds(11, "some twelve classes: " + classes, classes <= 14);
+        for (ImportTree imported : unit.getImports()) {
+            holds(4, "import " + imported.getQualifiedIdentifier(),
+                    imported.getQualifiedIdentifier().toString().matches("java\\.util\\.\\w+|java\\.util\\.\\*"));
         }
-        return super.scan(tree, nothing);
+        for (Tree member : outer.getMembers()) {
+            if (!(member instanceof ClassTree)) {
+                holds(1, "a member is the face's or private: " + firstLine(member), isShownOrPrivate(member));
+            }
+        }
+    }
+
+    private static boolean isShownOrPrivate(Tree member) {
+        Set<Modifier> flags = member instanceof MethodTree method ? method.getModifiers().getFlags()
+                : member instanceof VariableTree field ? field.getModifiers().getFlags() : Set.of(Modifier.PRIVATE);
+        return has(flags, Modifier.PUBLIC) || has(flags, Modifier.PRIVATE);
+    }
+
+    private static String firstLine(Tree tree) {
+        return tree.toString().strip().lines().findFirst().orElse("");
     }
 
     @Override
     public Void visitClass(ClassTree type, Void nothing) {
         String name = type.getSimpleName().toString();
         boolean outer = type == unit.getTypeDecls().get(0);
-        Tree around = getCurrentPath().getParentPath().getLeaf();
-        holds(2, name + " is a member or the file's class", outer || around.getKind() == Tree.Kind.CLASS);
         Set<Modifier> flags = type.getModifiers().getFlags();
-        holds(1, name + " is not shown", outer || !flags.contains(Modifier.PUBLIC) && !flags.contains(Modifier.PROTECTED));
+        holds(1, name + " is not shown", outer || !has(flags, Modifier.PUBLIC) && !has(flags, Modifier.PROTECTED));
+        holds(6, name + " is no exception", type.getExtendsClause() == null || !EXCEPTIONS.contains(type.getExtendsClause().toString()));
         int fields = 0;
         for (Tree member : type.getMembers()) {
-            holds(5, name + " has no block of its own", member.getKind() != Tree.Kind.BLOCK);
-            if (member instanceof VariableTree field && !field.getModifiers().getFlags().contains(Modifier.STATIC)) {
+            holds(5, name + " has no static block", !(member instanceof BlockTree block && block.isStatic()));
+            if (member instanceof VariableTree field && !has(field.getModifiers().getFlags(), Modifier.STATIC)) {
                 fields++;
-                holds(1, name + "." + field.getName() + " is private",
-                        !outer || field.getModifiers().getFlags().contains(Modifier.PRIVATE));
             }
         }
-        holds(11, name + " has at most twenty fields", fields <= 20);
+        holds(11, name + " has some twenty fields: " + fields, fields <= 24);
         return super.visitClass(type, nothing);
     }
 
     @Override
     public Void visitVariable(VariableTree variable, Void nothing) {
-        String type = variable.getType().toString();
-        String item = type.endsWith("[]") ? type.substring(0, type.length() - 2) : type;
-        holds(3, type + " " + variable.getName(), TYPES_OF_JAVA.contains(type) || ownTypes.contains(item));
-        VariableElement element = (VariableElement) trees.getElement(getCurrentPath());
-        if (element.getKind() == ElementKind.FIELD && element.getModifiers().contains(Modifier.STATIC)) {
-            holds(5, variable.getName() + " is a constant",
-                    element.getModifiers().contains(Modifier.FINAL) && element.getConstantValue() != null);
+        boolean caught = getCurrentPath().getParentPath().getLeaf() instanceof CatchTree;
+        if (variable.getType() != null && !caught) {
+            type(variable.getType().toString(), "the type of " + variable.getName());
+        }
+        Element element = trees.getElement(getCurrentPath());
+        if (element != null && element.getKind() == ElementKind.FIELD && element.getModifiers().contains(Modifier.STATIC)) {
+            holds(5, variable.getName() + " is final", element.getModifiers().contains(Modifier.FINAL));
         }
         return super.visitVariable(variable, nothing);
     }
 
+    private void type(String type, String what) {
+        for (String part : type.split("[<>,?&\\s\\[\\]]+")) {
+            String name = part.substring(part.lastIndexOf('.') + 1);
+            holds(3, what + ": " + type, NUMBERS.contains(name) || TYPES_OF_JAVA.contains(name) || ownTypes.contains(name));
+        }
+        boolean table = type.endsWith("[][]");
+        holds(3, what + " has at most two dimensions: " + type, !type.endsWith("[][][]")
+                && (!table || NUMBERS.contains(type.replace("[]", ""))));
+    }
+
     @Override
     public Void visitMethod(MethodTree method, Void nothing) {
-        String name = nameOf((ExecutableElement) trees.getElement(getCurrentPath()));
-        calls.computeIfAbsent(name, key -> new TreeSet<>());
-        holds(11, name + " takes at most seven parameters", method.getParameters().size() <= 7);
-        long lines = lineOf(trees.getSourcePositions().getEndPosition(unit, method)) - lineOf(startOf(method)) + 1;
-        holds(11, name + " has " + lines + " lines", lines <= 60);
-        holds(6, name + " tells of no exceptions", method.getThrows().isEmpty());
+        String name = method.getName().toString();
         Set<Modifier> flags = method.getModifiers().getFlags();
-        holds(1, name + " bears no name of the face",
-                flags.contains(Modifier.PUBLIC) || !shown.contains(method.getName().toString()));
-        boolean outer = trees.getElement(getCurrentPath()).getEnclosingElement().getSimpleName().contentEquals("StairKin");
-        holds(1, name + " is shown or private",
-                !outer || flags.contains(Modifier.PUBLIC) || flags.contains(Modifier.PRIVATE));
-        String type = method.getReturnType() == null ? "int" : method.getReturnType().toString();
-        holds(3, name + " answers " + type, type.equals("void") || TYPES_OF_JAVA.contains(type) || ownTypes.contains(type));
+        holds(11, name + " takes at most seven parameters", method.getParameters().size() <= 7);
+        long lines = lineOf(trees.getSourcePositions().getEndPosition(unit, method))
+                - lineOf(trees.getSourcePositions().getStartPosition(unit, method)) + 1;
+        holds(11, name + " has some sixty lines: " + lines, lines <= 70);
+        holds(1, "private " + name + " bears no name of the face", !has(flags, Modifier.PRIVATE) || !shown.contains(name));
+        holds(6, "no " + name + " of your own", !NOT_OF_YOUR_OWN.contains(name));
+        if (method.getReturnType() != null) {
+            type(method.getReturnType().toString(), "what " + name + " answers");
+        }
         return super.visitMethod(method, nothing);
     }
 
     @Override
     public Void visitMethodInvocation(MethodInvocationTree call, Void nothing) {
-        ExecutableElement called = (ExecutableElement) trees.getElement(getCurrentPath());
-        String name = nameOf(called);
-        // A constructor's call of the one above it stands in no source.
-        boolean own = ownTypes.contains(called.getEnclosingElement().getSimpleName().toString());
-        holds(4, "the call of " + name, own || CALLS_OF_JAVA.contains(name) || name.equals("Object.<init>"));
-        if (own) {
-            calls.computeIfAbsent(methodAround(), key -> new TreeSet<>()).add(name);
+        if (trees.getElement(getCurrentPath()) instanceof ExecutableElement called) {
+            String owner = called.getEnclosingElement().getSimpleName().toString();
+            String name = called.getSimpleName().toString();
+            boolean function = FUNCTIONS.contains(owner) && !name.endsWith("Exact") && isWhole(called.getReturnType());
+            holds(4, "the call of " + owner + "." + name, function || ownTypes.contains(owner)
+                    || CALLS_OF_JAVA.getOrDefault(owner, "").contains(" " + name + " "));
         }
         return super.visitMethodInvocation(call, nothing);
     }
 
+    private static boolean isWhole(TypeMirror type) {
+        return !type.toString().equals("double") && !type.toString().equals("float");
+    }
+
     @Override
     public Void visitNewClass(NewClassTree made, Void nothing) {
-        holds(3, "new " + made.getIdentifier(), ownTypes.contains(made.getIdentifier().toString()));
-        holds(2, "new " + made.getIdentifier() + " has no body of its own", made.getClassBody() == null);
-        holds(12, "new " + made.getIdentifier() + " in " + methodAround(), methodAround().endsWith(".<init>"));
+        boolean thrown = getCurrentPath().getParentPath().getLeaf() instanceof ThrowTree;
+        if (!thrown) {
+            type(made.getIdentifier().toString(), "new");
+        }
         return super.visitNewClass(made, nothing);
     }
 
     @Override
-    public Void visitNewArray(NewArrayTree made, Void nothing) {
-        String around = methodAround();
-        holds(12, "a row made in " + around, around.endsWith(".<init>") || around.equals(MAKES_ROWS));
-        for (ExpressionTree length : made.getDimensions()) {
-            boolean atLeast = length instanceof ConditionalExpressionTree && length.toString().endsWith(": had");
-            holds(7, "the length " + length + " in " + around, isPositiveConstant(length) || atLeast);
+    public Void visitThrow(ThrowTree thrown, Void nothing) {
+        boolean made = thrown.getExpression() instanceof NewClassTree exception
+                && EXCEPTIONS.contains(exception.getIdentifier().toString()) && exception.getArguments().size() <= 1;
+        holds(6, firstLine(thrown), made);
+        TreePath path = getCurrentPath();
+        while (path != null && !(path.getLeaf() instanceof MethodTree)) {
+            path = path.getParentPath();
         }
-        return super.visitNewArray(made, nothing);
+        holds(6, "it is in no constructor", path == null || ((MethodTree) path.getLeaf()).getReturnType() != null);
+        return super.visitThrow(thrown, nothing);
     }
 
     @Override
-    public Void visitTypeCast(TypeCastTree cast, Void nothing) {
-        holds(7, "the cast to " + cast.getType(), cast.getType().toString().equals("double"));
-        return super.visitTypeCast(cast, nothing);
+    public Void visitTry(TryTree tried, Void nothing) {
+        holds(6, "try without finally and resources", tried.getFinallyBlock() == null && tried.getResources().isEmpty());
+        for (CatchTree caught : tried.getCatches()) {
+            for (String type : caught.getParameter().getType().toString().split("[|\\s]+")) {
+                holds(6, "catch of " + type, EXCEPTIONS.contains(type));
+            }
+        }
+        return super.visitTry(tried, nothing);
     }
 
     @Override
-    public Void visitArrayAccess(ArrayAccessTree access, Void nothing) {
-        String row = access.getExpression().toString();
-        String index = access.getIndex().toString();
-        String looks = looksAhead();
-        boolean notBelow = looks.contains(index + " >= 0") || looks.contains("int " + index + " = 0");
-        holds(7, access + " in " + methodAround() + " behind a look at its place",
-                notBelow && looks.contains(index + " < " + row + ".length"));
-        return super.visitArrayAccess(access, nothing);
+    public Void visitLambdaExpression(LambdaExpressionTree lambda, Void nothing) {
+        holds(2, "no lambda: " + lambda, false);
+        return super.visitLambdaExpression(lambda, nothing);
+    }
+
+    @Override
+    public Void visitMemberReference(MemberReferenceTree reference, Void nothing) {
+        holds(2, "no method reference: " + reference, false);
+        return super.visitMemberReference(reference, nothing);
+    }
+
+    @Override
+    public Void visitSynchronized(SynchronizedTree block, Void nothing) {
+        holds(6, "no synchronized", false);
+        return super.visitSynchronized(block, nothing);
+    }
+
+    @Override
+    public Void visitAssert(AssertTree statement, Void nothing) {
+        holds(6, "no assert", false);
+        return super.visitAssert(statement, nothing);
     }
 
     @Override
     public Void visitBinary(BinaryTree binary, Void nothing) {
-        if (binary.getKind() == Tree.Kind.DIVIDE || binary.getKind() == Tree.Kind.REMAINDER) {
-            ExpressionTree divisor = binary.getRightOperand();
-            boolean whole = trees.getTypeMirror(getCurrentPath()).getKind() == TypeKind.INT;
-            String looks = looksAhead();
-            boolean looked = looks.contains(divisor + " > 0") || looks.contains(divisor + " != 0");
-            holds(7, binary + " in " + methodAround() + " behind a look at its divisor",
-                    !whole || looked || isPositiveConstant(divisor));
-        }
+        holds(10, "no text joined by +: " + binary, binary.getKind() != Tree.Kind.PLUS || !isText(getCurrentPath()));
         return super.visitBinary(binary, nothing);
     }
 
     @Override
     public Void visitCompoundAssignment(CompoundAssignmentTree assignment, Void nothing) {
-        boolean sum = assignment.getKind() == Tree.Kind.PLUS_ASSIGNMENT;
-        holds(10, assignment + " adds up, or multiplies", sum || assignment.getKind() == Tree.Kind.MULTIPLY_ASSIGNMENT);
+        holds(10, "no text joined by +=: " + assignment, !isText(getCurrentPath()));
         return super.visitCompoundAssignment(assignment, nothing);
+    }
+
+    private boolean isText(TreePath path) {
+        return String.valueOf(trees.getTypeMirror(path)).equals("java.lang.String");
+    }
+
+    @Override
+    public Void visitWhileLoop(WhileLoopTree loop, Void nothing) {
+        ends(loop.getCondition());
+        return super.visitWhileLoop(loop, nothing);
+    }
+
+    @Override
+    public Void visitDoWhileLoop(DoWhileLoopTree loop, Void nothing) {
+        ends(loop.getCondition());
+        return super.visitDoWhileLoop(loop, nothing);
     }
 
     @Override
     public Void visitForLoop(ForLoopTree loop, Void nothing) {
-        boolean counts = !loop.getInitializer().isEmpty() && loop.getInitializer().get(0) instanceof VariableTree;
-        String counter = counts ? ((VariableTree) loop.getInitializer().get(0)).getName().toString() : "";
-        String step = loop.getUpdate().isEmpty() ? "" : loop.getUpdate().get(0).getExpression().toString();
-        String bound = String.valueOf(loop.getCondition());
-        boolean up = step.equals(counter + "++") && bound.matches(".*\\b" + counter + " (<|<=) .*");
-        boolean down = step.equals(counter + "--") && bound.matches(".*\\b" + counter + " (>|>=) .*");
-        holds(9, "for (.. " + bound + " ..) in " + methodAround() + " counts to a bound", counts && (up || down));
-        holds(9, bound + " in " + methodAround() + " holds only if all of it holds", !bound.contains("||"));
-        holds(9, counter + " in " + methodAround() + " is counted by its loop alone",
-                !loop.getStatement().toString().matches("(?s).*(\\b" + counter + " (=|\\+=|-=|\\*=) .*|\\b" + counter
-                        + "(\\+\\+|--).*|(\\+\\+|--)" + counter + "\\b.*)"));
+        ends(loop.getCondition());
         return super.visitForLoop(loop, nothing);
     }
 
-    /** Rules 8 and 11: how deep calls go, and which come back to where they were. */
-    void compareCalls() {
-        for (String method : calls.keySet()) {
-            List<String> round = new ArrayList<>();
-            boolean comesBack = reaches(method, method, round);
-            holds(8, method + " comes back to itself by " + round, !comesBack || method.equals("Climbs.goEach"));
-        }
-        for (String name : shown) {
-            int depth = depth("StairKin." + name, 1);
-            holds(11, name + " goes " + depth + " deep", depth <= MOST_DEPTH);
-        }
-    }
-
-    private boolean reaches(String from, String to, List<String> met) {
-        for (String called : calls.getOrDefault(from, Set.of())) {
-            if (called.equals(to)) {
-                return true;
-            }
-            if (!met.contains(called)) {
-                met.add(called);
-                if (reaches(called, to, met)) {
-                    return true;
-                }
-            }
-        }
-        return false;
-    }
-
-    private int depth(String method, int level) {
-        int deepest = level;
-        for (String called : calls.getOrDefault(method, Set.of())) {
-            if (!called.equals(method) && level <= MOST_DEPTH) {
-                deepest = Math.max(deepest, depth(called, level + 1));
-            }
-        }
-        return deepest;
-    }
-
-    /** The conditions that hold where the path is: of an if, a loop or a "?" round it, or ahead of its "&&". */
-    private String looksAhead() {
-        StringBuilder looks = new StringBuilder();
-        TreePath path = getCurrentPath();
-        while (path.getParentPath() != null) {
-            Tree inside = path.getLeaf();
-            path = path.getParentPath();
-            Tree around = path.getLeaf();
-            if (around instanceof MethodTree) {
-                break;
-            }
-            looks.append(looksAt(around, inside)).append('\n');
-        }
-        return looks.toString();
-    }
-
-    private static String looksAt(Tree around, Tree inside) {
-        if (around instanceof IfTree branch && inside == branch.getThenStatement()) {
-            return every(branch.getCondition().toString());
-        }
-        if (around instanceof ConditionalExpressionTree choice && inside == choice.getTrueExpression()) {
-            return every(choice.getCondition().toString());
-        }
-        if (around instanceof ForLoopTree loop && inside == loop.getStatement()) {
-            return every(loop.getCondition().toString()) + " " + loop.getInitializer();
-        }
-        if (around instanceof BinaryTree both && both.getKind() == Tree.Kind.CONDITIONAL_AND
-                && inside == both.getRightOperand()) {
-            return every(both.getLeftOperand().toString());
-        }
-        return "";
-    }
-
-    /** Nothing is known of the parts of a condition that has an "or". */
-    private static String every(String condition) {
-        return condition.contains("||") ? "" : condition;
-    }
-
-    private boolean isPositiveConstant(ExpressionTree expression) {
-        if (expression instanceof LiteralTree literal) {
-            return literal.getValue() instanceof Integer value && value > 0;
-        }
-        if (expression instanceof IdentifierTree || expression instanceof MemberSelectTree) {
-            Element element = trees.getElement(new TreePath(getCurrentPath(), expression));
-            return element instanceof VariableElement constant
-                    && constant.getConstantValue() instanceof Integer value && value > 0;
-        }
-        if (expression instanceof BinaryTree sum && sum.getKind() == Tree.Kind.PLUS) {
-            return isPositiveConstant(sum.getLeftOperand()) && isPositiveConstant(sum.getRightOperand());
-        }
-        return expression instanceof ParenthesizedTree inside && isPositiveConstant(inside.getExpression());
-    }
-
-    private String methodAround() {
-        TreePath path = getCurrentPath();
-        while (path != null && !(path.getLeaf() instanceof MethodTree)) {
-            path = path.getParentPath();
-        }
-        return path == null ? "no method" : nameOf((ExecutableElement) trees.getElement(path));
-    }
-
-    private static String nameOf(ExecutableElement method) {
-        return method.getEnclosingElement().getSimpleName() + "." + method.getSimpleName();
-    }
-
-    private long startOf(Tree tree) {
-        return trees.getSourcePositions().getStartPosition(unit, tree);
+    private static void ends(Tree condition) {
+        String text = String.valueOf(condition);
+        holds(9, "a loop has an end: " + text, condition != null && !text.matches("\\(*true\\)*"));
     }
 
     private long lineOf(long position) {
-        LineMap lines = unit.getLineMap();
-        return position < 0 ? 0 : lines.getLineNumber(position);
+        return position < 0 ? 0 : unit.getLineMap().getLineNumber(position);
     }
 }

@@ -10,12 +10,9 @@ public final class RoomTest {
         Integer.MAX_VALUE - 1, Integer.MAX_VALUE
     };
     private static final int CALLS = 512;
-    /** A machine's field or element takes at least 4 bytes, and an object 16; the room is for many runs. */
-    private static final long MOST_BYTES_OF_AN_OBJECT = 16000;
-    private static final long MOST_BYTES_OF_A_RUN = 200000;
-
-    /** The machine's own work may be counted in; one row a call would be far above this. */
-    private static final long BYTES_OF_NO_CALL = 4000;
+    private static final int CALLS_OF_FULL_STAIRS = 13;
+    /** All calls of a run share it: 600,000 objects of at least 16 bytes, 7.3 million fields and elements of at least 4. */
+    private static final long ROOM = 600000L * 16 + 7300000L * 4;
 
     private RoomTest() {
     }
@@ -108,24 +105,53 @@ public final class RoomTest {
         StairKin x = new StairKin();
         long before = bytes();
         x = new StairKin();
-        atMost("new StairKin()", bytes() - before, MOST_BYTES_OF_AN_OBJECT);
+        atMost("new StairKin()", bytes() - before, ROOM / 10);
         Check.same("without steps", x.count(0), 0);
     }
 
-    /** Not one object is made by looks, by what would be, or by changes that meet few primes. */
+    /** Calls of each kind, and the dearest ones alone, in runs that are as long as a run may be. */
     private static void roomOfCalls() {
         Check.part("room of calls");
-        for (int round = 0; round < 3; round++) {
-            StairKin x = new StairKin();
-            long before = bytes();
-            int sum = 0;
-            for (int turn = 0; turn < CALLS / 32; turn++) {
-                sum += change(x, turn) + look(x, turn % 12);
+        StairKin x = new StairKin();
+        long before = bytes();
+        int sum = 0;
+        for (int turn = 0; turn < CALLS / 32; turn++) {
+            sum += change(x, turn) + look(x, turn % 12);
+        }
+        atMost(CALLS + " calls, answers adding up to " + sum, bytes() - before, ROOM);
+        for (int kind = 0; kind < 6; kind++) {
+            before = bytes();
+            x = fullStairs();
+            for (int call = CALLS_OF_FULL_STAIRS; call < CALLS; call++) {
+                dear(x, kind);
             }
-            long taken = bytes() - before;
-            if (round > 0) {
-                atMost(CALLS + " calls, answers adding up to " + sum, taken, BYTES_OF_NO_CALL);
-            }
+            atMost(CALLS + " calls of kind " + kind, bytes() - before, ROOM);
+        }
+    }
+
+    private static StairKin fullStairs() {
+        StairKin x = new StairKin();
+        for (int step = 0; step < 12; step++) {
+            x.add(step, 2310);
+        }
+        x.set(1, 4);
+        return x;
+    }
+
+    private static int dear(StairKin x, int kind) {
+        switch (kind) {
+            case 0:
+                return x.bestStrike();
+            case 1:
+                return x.ifDone(2, 0, 2);
+            case 2:
+                return x.climbs(0, 11, 1);
+            case 3:
+                return x.settle();
+            case 4:
+                return x.count(3);
+            default:
+                return x.set(1, 4);
         }
     }
 
@@ -154,7 +180,7 @@ public final class RoomTest {
             }
         }
         x.save();
-        atMost(primes + " primes", bytes() - before, MOST_BYTES_OF_A_RUN);
+        atMost(primes + " primes", bytes() - before, ROOM);
         Check.same("the accounts still know the first one", x.prime(9973, 1), 0);
         x.add(0, 9973);
         Check.same("the accounts still know the first one", x.prime(9973, 1), 1);

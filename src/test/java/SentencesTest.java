@@ -8,7 +8,7 @@ public final class SentencesTest {
     public static void main(String[] args) throws java.io.IOException {
         Path program = Path.of(args.length > 0 ? args[0] : "src/main/java/StairKin.java");
         FirstCases.all();
-        FaceCases.all(program);
+        FaceCases.all();
         TermsCases.all();
         DeedCases.all();
         TextCases.all();
