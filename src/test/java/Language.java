@@ -142,7 +142,8 @@ final class Language extends TreePathScanner<Void, Void> {
         boolean outer = type == unit.getTypeDecls().get(0);
         Set<Modifier> flags = type.getModifiers().getFlags();
         holds(1, name + " is not shown", outer || !has(flags, Modifier.PUBLIC) && !has(flags, Modifier.PROTECTED));
-        holds(6, name + " is no exception", type.getExtendsClause() == null || !EXCEPTIONS.contains(type.getExtendsClause().toString()));
+        String above = String.valueOf(type.getExtendsClause());
+        holds(6, name + " is no exception", !EXCEPTIONS.contains(above));
         int fields = 0;
         for (Tree member : type.getMembers()) {
             holds(5, name + " has no static block", !(member instanceof BlockTree block && block.isStatic()));
